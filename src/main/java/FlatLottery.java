@@ -494,14 +494,14 @@ public final class FlatLottery {
         }
 
         void copyFrom(State other) {
-            for (int flat = 0; flat < MOST_FLATS; flat++) {
+            flatCount = other.flatCount;
+            for (int flat = 0; flat < flatCount; flat++) {
                 flats[flat].copyFrom(other.flats[flat]);
             }
-            for (int household = 0; household < MOST_HOUSEHOLDS; household++) {
+            householdCount = other.householdCount;
+            for (int household = 0; household < householdCount; household++) {
                 households[household].copyFrom(other.households[household]);
             }
-            flatCount = other.flatCount;
-            householdCount = other.householdCount;
             rounds = other.rounds;
             refused = other.refused;
             declined = other.declined;

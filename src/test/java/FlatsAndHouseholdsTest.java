@@ -64,13 +64,14 @@ public final class FlatsAndHouseholdsTest {
             .households(11, 2, 3).act("addHousehold(4, 4)", 11)
             .unchanged("addHousehold(4, 4)", FULL).unchanged("addHousehold(0, 4)", BAD_VALUE)
             .unchanged("addHousehold(4, 10000)", BAD_VALUE).due("count(1)", 12);
-        // A household that is added where an undone one was bears nothing of it.
-        new Run("3 addHousehold, after undo()")
-            .flats(1, 1, 1).due("keep()", 0).households(1, 1, 9).list(0, 0).numbers(7)
-            .due("round()", 1).due("appeal(0, 0)", 0).due("restore()", 0)
-            .due("addHousehold(2, 8)", 0).listIs(0).holds(NONE)
-            .due("household(0, 2)", NONE).due("household(0, 6)", 0).due("flat(0, 2)", NONE)
-            .due("flat(0, 3)", 0).due("count(4)", 0).due("count(8)", 0);
+        // A household that is added where another one was bears nothing of it.
+        new Run("3 addHousehold, where another one was")
+            .flats(1, 1, 1).due("keep()", 0).households(1, 1, 9).numbers(7)
+            .due("round()", 0).due("appeal(0, 0)", 101).list(0, 0).due("round()", 1)
+            .due("restore()", 0).due("addHousehold(2, 8)", 0).listIs(0).holds(NONE)
+            .due("household(0, 0)", 2).due("household(0, 1)", 8).due("household(0, 2)", NONE)
+            .due("household(0, 3)", 0).due("household(0, 6)", 0).due("household(0, 9)", 0)
+            .due("flat(0, 2)", NONE).due("flat(0, 3)", 0).due("count(4)", 0).due("count(8)", 0);
     }
 
     private static void change() {

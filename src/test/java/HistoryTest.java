@@ -62,6 +62,13 @@ public final class HistoryTest {
             .act("restore()", 1).holds(0, NONE);
         new Run("17 keep, of nothing").due("keep()", 0).flats(3, 1, 1).act("restore()", 0)
             .due("count(0)", 0).due("count(11)", 4).due("undo()", 3).due("count(0)", 3);
+        // Flats and households that took the places of those in the snapshot go again.
+        new Run("17 keep, other flats in their places").flats(1, 2, 20).households(1, 3, 30)
+            .due("keep()", 0).due("undo()", 1).due("undo()", 0).flats(2, 4, 40)
+            .households(1, 5, 50).due("restore()", 0).due("flat(0, 0)", 2).due("flat(0, 1)", 20)
+            .due("flat(1, 0)", -1).due("household(0, 0)", 3).due("household(0, 1)", 30)
+            .due("undo()", 3).due("flat(0, 0)", 4).due("flat(1, 1)", 40)
+            .due("household(0, 0)", 5).due("household(0, 1)", 50);
         // What happens after keep() doesn't reach into the snapshot.
         new Run("17 keep, is a copy").flats(2, 1, 1).households(1, 1, 9).list(0, 0, 1)
             .due("keep()", 0).due("change(0, false, 5)", 1).due("unwish(0, 0)", 0)

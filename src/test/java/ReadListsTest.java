@@ -131,6 +131,9 @@ public final class ReadListsTest {
             .text("0:1;1:0,1,11").unchanged("readLists()", UNKNOWN)
             .text("0:1;11:0").unchanged("readLists()", UNKNOWN).listIs(0).listIs(1)
             .text("1:2;0:2").act("readLists()", 2);
+        // What stood in another text before makes no difference.
+        run.text("0:1,11;7:0").unchanged("readLists()", UNKNOWN).text("0:1").act("readLists()", 1)
+            .listIs(0, 1).listIs(1, 2);
     }
 
     private static void twice() {

@@ -48,6 +48,10 @@ public final class RoundsTest {
             .holds(1, NONE, 2, 0).due("count(3)", 2).due("household(1, 9)", 2)
             .act("round()", 0).due("count(3)", 3).due("household(1, 9)", 3)
             .due("household(0, 9)", 0);
+        // What is held already isn't given again, be its holder the first one or the last.
+        new Run("9 round, held already").flats(2, 1, 1).households(3, 1, 9).list(0, 0).list(2, 1)
+            .due("draw(0, 5)", 1).due("draw(2, 6)", 2).due("round()", 2).list(1, 0, 1)
+            .due("draw(1, 1)", 3).act("round()", 0).holds(0, NONE, 1);
         new Run("9 round, empty lists").flats(1, 1, 1).households(1, 1, 9).numbers(9)
             .act("round()", 0).holds(NONE).due("household(0, 9)", 1);
         new Run("9 round, no flats").households(1, 1, 9).numbers(9).act("round()", 0);
@@ -133,6 +137,10 @@ public final class RoundsTest {
             .act("appeal(1, 2)", 0).act("appeal(2, 2)", 0).due("appeal(0, 2)", 0)
             .due("draw(1, 9)", 2).due("change(1, true, 2)", 9).act("appeal(1, 2)", 0)
             .due("count(9)", 4);
+        Run full = new Run("11 appeal, twelve, and nobody wronged").flats(1, 1, 1)
+            .households(12, 1, 9).list(11, 0).due("draw(11, 2)", 1).due("round()", 1);
+        full.act("appeal(0, 2)", 0).list(0, 0).act("appeal(0, 2)", 0).due("draw(1, 1)", 2)
+            .act("appeal(1, 2)", 0).list(1, 0).act("appeal(1, 2)", 103);
         new Run("11 appeal, wronged without a flat").flats(1, 1, 1).households(2, 1, 9)
             .list(0, 0).list(1, 0).due("draw(0, 10)", 1).due("round()", 1)
             .due("draw(1, 9)", 2).act("appeal(1, 2)", 103).act("appeal(1, 2)", 106)

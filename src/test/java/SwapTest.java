@@ -42,6 +42,10 @@ public final class SwapTest {
             .due("count(5)", 2).act("swap()", 2).holds(2, 1, 0).due("count(7)", 0)
             .due("count(2)", 3).due("flat(0, 2)", 2).due("flat(2, 2)", 0)
             .unchanged("swap()", NONE).listIs(0, 2).due("household(0, 8)", NONE);
+        // Nothing needs to be asked first.
+        settled("12 swap, at once", 2).list(0, 1).list(1, 0).due("swap()", 2).due("swap()", NONE)
+            .due("unwish(0, 1)", 0).list(0, 0).due("unwish(1, 0)", 0).list(1, 1).due("swap()", 2)
+            .holds(0, 1);
         // Not, if one of them isn't eligible.
         settled("12 swap, not eligible", 2).list(0, 1).list(1, 0).due("change(0, true, 2)", 9)
             .due("household(0, 8)", NONE).due("household(1, 8)", 0).unchanged("swap()", NONE)
@@ -56,6 +60,10 @@ public final class SwapTest {
             .due("moveOut(1)", 1).due("household(0, 8)", NONE)
             .due("unwish(0, 0)", 3).due("household(0, 8)", 3)
             .due("moveOut(0)", 0).due("household(0, 8)", NONE);
+        // Six flats that nobody holds, before one that is on no list.
+        settled("household(.., 8), six free flats", 2).flats(6, 1, 1).list(0, 2, 3, 4, 5, 6, 7)
+            .due("household(0, 8)", NONE).due("household(1, 8)", NONE).due("count(7)", 0)
+            .unchanged("swap()", NONE);
         // A flat that is wished most and held, but too large, is passed.
         Run wide = new Run("household(.., 8), not eligible").due("addFlat(2, 1)", 0)
             .due("addFlat(3, 1)", 1).due("addFlat(1, 1)", 2).households(1, 1, 9)

@@ -155,6 +155,10 @@ public final class ToldTest {
             chain.list(household, household, household + 1);
         }
         chain.due("most()", 11).list(11, 0).unchanged("most()", 12);
+        // The first one moves on for the third, and so does the third for the fourth.
+        new Run("25 most, moved on twice").flats(6, 1, 1).households(4, 1, 9).list(0, 0, 1)
+            .list(1, 3, 5).list(2, 0, 3).list(3, 0).due("most()", 4).due("unwish(1, 5)", 1)
+            .due("most()", 3);
         Run crowd = new Run("25 most, twelve want two").flats(12, 1, 1).households(12, 1, 9);
         for (int household = 0; household < 12; household++) {
             crowd.list(household, 3, 7);
