@@ -141,7 +141,9 @@ public final class ReadListsTest {
             .text("0:1;1:5,5").unchanged("readLists()", BAD_VALUE).listIs(0).listIs(1)
             .text("0:0,1,2,3,4,0").unchanged("readLists()", BAD_VALUE)
             .text("0:11,1,11").unchanged("readLists()", BAD_VALUE)
-            .text("0:1;0:1;1:1").act("readLists()", 3);
+            .text("0:1;0:1;1:1").act("readLists()", 3)
+            .text("0:1;1:5,5").unchanged("readLists()", BAD_VALUE)
+            .text("0:1").act("readLists()", 1).listIs(0, 1).listIs(1, 1);
     }
 
     private static void errorsInOrder() {
