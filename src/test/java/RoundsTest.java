@@ -130,8 +130,8 @@ public final class RoundsTest {
         run.due("round()", 2).holds(0, 1).act("appeal(1, 2)", 0).act("appeal(2, 2)", 0)
             .due("draw(1, 5)", 2).act("appeal(1, 2)", 103).due("count(9)", 2)
             .due("household(1, 3)", 3).due("ordered(0)", 1);
-        // Wronged by one that doesn't stand in the order; not without a number; not if not eligible.
-        Run out = new Run("11 appeal, wronged by one out of the order").flats(1, 1, 1)
+        // Not behind the other one, not without a number, not for a flat it isn't eligible for.
+        Run out = new Run("11 appeal, not wronged").flats(1, 1, 1)
             .due("keep()", 0).households(3, 1, 9).list(0, 0).list(1, 0).list(2, 0);
         out.due("draw(0, 10)", 1).due("round()", 1).due("draw(1, 20)", 2)
             .act("appeal(1, 2)", 0).act("appeal(2, 2)", 0).due("appeal(0, 2)", 0)

@@ -98,7 +98,7 @@ public final class ToldTest {
             .due("draw(0, 1)", 3).unchanged("envies(0, 1)", 2).unchanged("envies(0, 2)", 2)
             .unchanged("count(5)", 3).unchanged("count(6)", 2)
             .due("moveOut(1)", 0).unchanged("envies(0, 1)", 0).unchanged("envies(2, 1)", 0);
-        // Just towards one that doesn't stand in the order: it lost its number by an undo.
+        // Points that came after the round make envy just.
         new Run("23 envies, just by points").flats(1, 1, 1).households(2, 1, 9).list(0, 0).list(1, 0)
             .numbers(1, 2).due("round()", 1).due("envies(1, 0)", 1).due("appeal(1, 0)", 101)
             .due("envies(1, 0)", 2).due("count(6)", 1);
