@@ -17,8 +17,8 @@ public final class AnyArgumentsTest {
     }
 
     private static void callAll(FlatLottery lottery) {
-        for (String name : Calls.NAMES) {
-            int arguments = Calls.method(FlatLottery.class, name).getParameterCount();
+        for (String name : Call.NAMES) {
+            int arguments = Call.method(FlatLottery.class, name).getParameterCount();
             int[] given = new int[arguments];
             int ways = 1;
             for (int i = 0; i < arguments; i++) {
@@ -30,7 +30,7 @@ public final class AnyArgumentsTest {
                     given[i] = NUMBERS[rest % NUMBERS.length];
                     rest /= NUMBERS.length;
                 }
-                Calls.answer(lottery, name, given);
+                new Call(name, given).on(lottery);
             }
         }
     }

@@ -71,7 +71,7 @@ public final class FaceTest {
             }
         }
         due("methods", String.join("\n", shown) + "\n", FACE);
-        for (String name : Calls.NAMES) {
+        for (String name : Call.NAMES) {
             due("a private method bears the name " + name, hidden.contains(name), false);
         }
     }

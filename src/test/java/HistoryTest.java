@@ -53,12 +53,12 @@ public final class HistoryTest {
     private static void snapshot() {
         Run run = new Run("17 keep").flats(2, 1, 1).households(2, 1, 9).list(0, 0).list(1, 1)
             .numbers(1, 2);
-        run.unchanged("restore()", NONE).unchanged("keep()", 0).due("round()", 2)
-            .unchanged("keep()", 2).due("moveOut(0)", 0).due("flat(0, 2)", NONE)
+        run.unchanged("restore()", NONE).changesSnapshot("keep()", 0).due("round()", 2)
+            .changesSnapshot("keep()", 2).due("moveOut(0)", 0).due("flat(0, 2)", NONE)
             .act("restore()", 2).holds(0, 1).act("decline(1)", 1).act("restore()", 2)
-            .listIs(1, 1).due("count(10)", 0).unchanged("keep()", 2);
+            .listIs(1, 1).due("count(10)", 0).changesSnapshot("keep()", 2);
         // The later snapshot takes the place of the earlier; undo() leaves it.
-        run.due("moveOut(1)", 1).unchanged("keep()", 1).due("undo()", 3).holds(0, 1)
+        run.due("moveOut(1)", 1).changesSnapshot("keep()", 1).due("undo()", 3).holds(0, 1)
             .act("restore()", 1).holds(0, NONE);
         new Run("17 keep, of nothing").due("keep()", 0).flats(3, 1, 1).act("restore()", 0)
             .due("count(0)", 0).due("count(11)", 4).due("undo()", 3).due("count(0)", 3);

@@ -8,7 +8,6 @@ import java.util.List;
 import java.util.Map;
 import java.util.Objects;
 import java.util.Set;
-import java.util.TreeSet;
 import java.util.regex.Matcher;
 import java.util.regex.Pattern;
 
@@ -558,21 +557,19 @@ final class Model {
         return orNone(other.now.households.get(household).held);
     }
 
+    /** All sets of flats (as bits) that some of the households looked at so far could hold. */
     int most() {
-        Set<Set<Integer>> taken = new HashSet<>();
-        taken.add(new TreeSet<>());
+        Set<Integer> taken = new HashSet<>(Set.of(0));
         for (Household household : now.households) {
-            for (Set<Integer> before : new ArrayList<>(taken)) {
+            for (int before : List.copyOf(taken)) {
                 for (int flat : household.list) {
-                    if (eligible(household, flat) && !before.contains(flat)) {
-                        Set<Integer> more = new TreeSet<>(before);
-                        more.add(flat);
-                        taken.add(more);
+                    if (eligible(household, flat)) {
+                        taken.add(before | 1 << flat);
                     }
                 }
             }
         }
-        return taken.stream().mapToInt(Set::size).max().orElse(0);
+        return taken.stream().mapToInt(Integer::bitCount).max().orElse(0);
     }
 
     int count(int what) {

@@ -1,7 +1,10 @@
+import java.util.ArrayList;
+import java.util.List;
+
 /** Random runs of calls, the same each time, whose answers are held against the model's. */
 public final class ModelTest {
     private static final int RUNS = 250;
-    private static final int CALLS = 512;
+    private static final int ASKED_AFTER = 48;
 
     private long seed;
 
@@ -28,23 +31,24 @@ public final class ModelTest {
     private String run(int run) {
         FlatLottery lottery = new FlatLottery();
         Model model = new Model();
-        StringBuilder calls = new StringBuilder();
+        List<Call> made = new ArrayList<>();
         // Every other run starts with many flats and households, so that rings and chains are long.
         int begun = run % 2 == 0 ? 0 : 4 + any(9);
-        for (int call = 0; call < CALLS; call++) {
-            String name = call < 2 * begun ? call % 2 == 0 ? "addFlat" : "addHousehold" : anyName();
-            int[] arguments = arguments(name);
-            calls.append(Calls.written(name, arguments)).append(' ');
-            int got = Calls.answer(lottery, name, arguments);
-            int want = Calls.answer(model, name, arguments);
+        while (made.size() < Told.CALLS) {
+            String name = made.size() >= 2 * begun ? anyName()
+                : made.size() % 2 == 0 ? "addFlat" : "addHousehold";
+            Call call = new Call(name, arguments(name));
+            made.add(call);
+            int got = call.on(lottery);
+            int want = call.on(model);
             if (got != want) {
-                return calls + "answered " + got + ", due is " + want;
+                return made + " answered " + got + ", due is " + want;
             }
-            if (call % 32 == 31) {
-                String told = Calls.told(lottery);
-                String due = Calls.told(model);
-                if (!told.equals(due)) {
-                    return calls + Calls.firstDifference(told, due);
+            if (made.size() % ASKED_AFTER == 0 && made.size() < Told.CALLS) {
+                String difference = Told.after(FlatLottery::new, made)
+                    .differenceFrom(Told.after(Model::new, made));
+                if (difference != null) {
+                    return made + " told " + difference;
                 }
             }
         }
@@ -55,7 +59,7 @@ public final class ModelTest {
         String[] often = {"wish", "wish", "wish", "wish", "wish", "draw", "draw", "round", "swap",
             "appeal", "unwish", "change", "moveOut", "text", "addFlat", "addHousehold"};
         int pick = any(often.length + 5);
-        String name = pick < often.length ? often[pick] : Calls.NAMES[any(Calls.NAMES.length)];
+        String name = pick < often.length ? often[pick] : Call.NAMES[any(Call.NAMES.length)];
         return name.equals("text") ? any(8) == 0 ? "readLists" : "type" : name;
     }
 

@@ -1,3 +1,6 @@
+import java.util.ArrayList;
+import java.util.List;
+
 /** Many texts, near good ones, whose faults are held against the model's. */
 public final class TextModelTest {
     private static final int TEXTS = 5000;
@@ -8,32 +11,26 @@ public final class TextModelTest {
         int good = 0;
         for (int text = 0; text < TEXTS; text++) {
             String typed = anyText();
-            FlatLottery lottery = new FlatLottery();
-            Model model = new Model();
-            grow(lottery);
-            grow(model);
-            for (int i = 0; i < typed.length(); i++) {
-                Calls.answer(lottery, "type", typed.charAt(i));
-                Calls.answer(model, "type", typed.charAt(i));
+            List<Call> made = new ArrayList<>();
+            for (int i = 0; i < 11; i++) {
+                made.add(new Call("addFlat", 1, 1));
+                made.add(new Call("addHousehold", 1, 9));
             }
-            int got = Calls.answer(lottery, "readLists()");
-            int want = Calls.answer(model, "readLists()");
-            if (got != want || !Calls.told(lottery).equals(Calls.told(model))) {
-                System.out.println(typed + " answered " + got + ", due is " + want);
+            for (int i = 0; i < typed.length(); i++) {
+                made.add(new Call("type", typed.charAt(i)));
+            }
+            made.add(new Call("readLists"));
+            Told got = Told.after(FlatLottery::new, made);
+            Told want = Told.after(Model::new, made);
+            if (got.last != want.last || got.differenceFrom(want) != null) {
+                System.out.println(typed + " answered " + got.last + ", due is " + want.last);
                 System.exit(1);
             }
-            good += got > 0 ? 1 : 0;
+            good += got.last > 0 ? 1 : 0;
         }
         if (good < TEXTS / 20 || good > TEXTS / 2) {
             System.out.println(good + " good texts of " + TEXTS + " are too few or too many");
             System.exit(1);
-        }
-    }
-
-    private static void grow(Object target) {
-        for (int i = 0; i < 11; i++) {
-            Calls.answer(target, "addFlat", 1, 1);
-            Calls.answer(target, "addHousehold", 1, 9);
         }
     }
 
