@@ -2,6 +2,8 @@ import java.io.IOException;
 import java.io.UncheckedIOException;
 import java.nio.file.Files;
 import java.nio.file.Path;
+import java.util.regex.Matcher;
+import java.util.regex.Pattern;
 
 /** The words of the document, so that what a test quotes stands there. */
 final class Document {
@@ -23,6 +25,15 @@ final class Document {
     static boolean says(String heading, String words) {
         int from = ("\n" + TEXT).indexOf("\n" + heading + "\n");
         return from >= 0 && section(from + heading.length()).contains(words);
+    }
+
+    /** All that stands under the promise of this method. */
+    static String promise(String method) {
+        Matcher heading = Pattern.compile("(?m)^## Promise \\d+: " + method + "$").matcher(TEXT);
+        if (!heading.find()) {
+            throw new IllegalArgumentException("no promise of " + method);
+        }
+        return section(heading.end());
     }
 
     /** Up to the next line that is a heading. */
